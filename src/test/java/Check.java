@@ -44,15 +44,20 @@ final class Check {
         due(what, 0, () -> told.answer() ? 1 : 0);
     }
 
-    /** The exception must be of just this class, for the machine's own ones are of classes below it. */
+    /**
+     * The exception must be of just this class, and thrown in Koebehall itself: the machine's own ones are of classes
+     * below it, and those of a list come from the list.
+     */
     static void refused(String what, Class<? extends RuntimeException> kind, Call call) {
         asked++;
         try {
             double got = call.answer();
             tellWrong(what, "answered " + got, "due is " + kind.getName());
         } catch (RuntimeException thrown) {
-            if (thrown.getClass() != kind) {
-                tellWrong(what, "threw " + thrown.getClass().getName(), "due is " + kind.getName());
+            StackTraceElement[] open = thrown.getStackTrace();
+            String thrower = open.length == 0 ? "" : open[0].getClassName();
+            if (thrown.getClass() != kind || !thrower.startsWith("Koebehall")) {
+                tellWrong(what, "threw " + thrown.getClass().getName() + " in " + thrower, "due is " + kind.getName());
             }
         }
     }

@@ -15,6 +15,7 @@ public final class DisksTest {
         drawsByHand();
         drawsAfterSplit();
         drawsNeedsAllApart();
+        drawsNeedsEachPair();
         drawsWhatAFlipChanges();
         for (int run = 0; run < 30; run++) {
             runAtWill(run);
@@ -187,6 +188,27 @@ public final class DisksTest {
         x.move(0, -285, 0, 285);
         x.move(3, 285, 0, 285);
         Check.holdsNot("0 and 4 do not touch any more", () -> x.draws());
+    }
+
+    /** Of four disks all touch but two: these lie apart, or one upon the other. */
+    private static void drawsNeedsEachPair() {
+        int[][] rows = {{0, 4, 2}, {0, -4, 2}, {-3, 0, 3}, {3, 0, 3}};
+        for (int other = 1; other < 4; other++) {
+            for (int disk = 0; disk < other; disk++) {
+                Koebehall x = new Koebehall();
+                int next = 2;
+                for (int number = 0; number < 4; number++) {
+                    int[] row = number == disk ? rows[0] : number == other ? rows[1] : rows[next++];
+                    x.disk(row[0], row[1], row[2]);
+                }
+                String what = disk + " and " + other;
+                Check.due(what + " alone do not touch", 5, () -> x.pairs(Koebehall.TOUCH));
+                Check.holdsNot(what + " lie apart", () -> x.draws());
+                x.move(other, rows[0][0], rows[0][1], rows[0][2]);
+                Check.due(what + " alone do not touch", 5, () -> x.pairs(Koebehall.TOUCH));
+                Check.holdsNot(what + " overlap", () -> x.draws());
+            }
+        }
     }
 
     private static void drawsWhatAFlipChanges() {
