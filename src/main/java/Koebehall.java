@@ -612,16 +612,25 @@ public final class Koebehall {
         private final long[] walked;
 
         private Gasket(long a, long b, long c, long d) {
-            four = new long[4];
-            four[0] = a;
-            four[1] = b;
-            four[2] = c;
-            four[3] = d;
-            least = new long[4];
-            System.arraycopy(four, 0, least, 0, 4);
-            bringToRoot(least);
-            putInOrder(least);
+            four = rowOf(a, b, c, d);
+            least = rootOf(a, b, c, d);
             walked = new long[4];
+        }
+
+        private static long[] rowOf(long a, long b, long c, long d) {
+            long[] row = new long[4];
+            row[0] = a;
+            row[1] = b;
+            row[2] = c;
+            row[3] = d;
+            return row;
+        }
+
+        private static long[] rootOf(long a, long b, long c, long d) {
+            long[] row = rowOf(a, b, c, d);
+            bringToRoot(row);
+            putInOrder(row);
+            return row;
         }
 
         private static boolean areOfGasket(long a, long b, long c, long d) {
