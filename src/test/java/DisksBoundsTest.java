@@ -462,14 +462,18 @@ public final class DisksBoundsTest {
         }
         Bounds.Maker sixteen = () -> drawn(16, 16);
         Bounds.due("all edges touch", 42, sixteen, x -> x.pairs(Koebehall.TOUCH));
-        Bounds.due("the last one is less by one", false, sixteen, x -> {
-            x.move(15, 0, -5292, 251);
-            return x.draws();
-        });
         Bounds.due("the last one is greater by one", false, sixteen, x -> {
             x.move(15, 0, -5292, 253);
             return x.draws();
         });
+        for (int disk = 0; disk < 16; disk++) {
+            int at = disk;
+            int[] row = SIXTEEN[at];
+            Bounds.due("one is less by one", false, sixteen, x -> {
+                x.move(at, row[0], row[1], row[2] - 1);
+                return x.draws();
+            });
+        }
         Bounds.due("the last two change places", false, sixteen, x -> {
             x.move(15, -5040, -24570, 630);
             x.move(14, 0, -5292, 252);

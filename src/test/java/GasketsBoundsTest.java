@@ -693,8 +693,13 @@ public final class GasketsBoundsTest {
 
     // Promise 19: "- `by`: 2 to 8"
     private static void remaindersBys() {
-        Bounds.due("the least", 3, GasketsBoundsTest::one, x -> x.remainders(0, 2));
-        Bounds.due("the greatest", 204, GasketsBoundsTest::one, x -> x.remainders(0, 8));
+        int[] dues = {3, 5, 12, 31, 45, 127, 204};
+        int[] ofStrip = {3, 3, 3, 31, 27, 127, 19};
+        for (int by = 2; by <= 8; by++) {
+            int asked = by;
+            Bounds.due("by " + asked, dues[asked - 2], GasketsBoundsTest::one, x -> x.remainders(0, asked));
+            Bounds.due("of a strip, by " + asked, ofStrip[asked - 2], of(0, 0, 1, 1), x -> x.remainders(0, asked));
+        }
         Bounds.noArgument("below the least", GasketsBoundsTest::one, x -> x.remainders(0, 1));
         Bounds.noArgument("above the greatest", GasketsBoundsTest::one, x -> x.remainders(0, 9));
     }

@@ -344,6 +344,14 @@ public final class NetBoundsTest {
             };
             face("flipped from " + a, flipped, 0, 0, 3, 4);
             face("flipped from " + a, flipped, 1, 1, 4, 3);
+            // Both faces then begin with what is named last, or in the middle.
+            Bounds.Maker back = () -> {
+                Koebehall x = flipped.made();
+                x.flip(3 + a, 4 - a);
+                return x;
+            };
+            face("flipped back from " + (3 + a), back, 0, 0, 3, 1);
+            face("flipped back from " + (3 + a), back, 1, 0, 1, 4);
             Bounds.noState("no neighbours any more", flipped, x -> x.flip(0, 1));
             Bounds.due("no face more", 6, flipped, x -> x.net(2));
         }
