@@ -520,6 +520,10 @@ public final class Koebehall {
         }
 
         private int neighbourAt(int corner, int place) {
+            // No corner has so many neighbours; so the way around ends soon, however great the place is.
+            if (place >= MOST_CORNERS) {
+                return NONE;
+            }
             int lowest = lowestNeighbour(corner);
             int found = lowest;
             for (int step = 0; step < place; step++) {
