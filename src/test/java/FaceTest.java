@@ -47,6 +47,52 @@ public final class FaceTest {
         "int side(int, int, int) throws IndexOutOfBoundsException, IllegalArgumentException, IllegalStateException",
     };
 
+    // The block of the document, word for word.
+    private static final String BLOCK = """
+        public final class Koebehall {
+            public static final int NONE = -1;
+            public static final int APART = 0, TOUCH = 1, OVERLAP = 2;
+            public Koebehall();
+            public int split(int face) throws IndexOutOfBoundsException, IllegalStateException;
+            public int flip(int corner, int other) throws IndexOutOfBoundsException, IllegalStateException;
+            public int corner(int face, int place) throws IndexOutOfBoundsException;
+            public int around(int corner, int place) throws IndexOutOfBoundsException;
+            public int net(int what) throws IndexOutOfBoundsException;
+            public int disk(int x, int y, int radius) throws IllegalArgumentException, IllegalStateException;
+            public int move(int disk, int x, int y, int radius) throws IndexOutOfBoundsException, IllegalArgumentException;
+            public int lie(int disk, int other) throws IndexOutOfBoundsException, IllegalArgumentException;
+            public int pairs(int how) throws IllegalArgumentException;
+            public boolean draws();
+            public int gasket(int a, int b, int c, int d) throws IllegalArgumentException, IllegalStateException;
+            public long turn(int gasket, int place) throws IndexOutOfBoundsException, IllegalStateException;
+            public long curvature(int gasket, int place) throws IndexOutOfBoundsException;
+            public float radius(int gasket, int place) throws IndexOutOfBoundsException;
+            public long root(int gasket, int rank) throws IndexOutOfBoundsException;
+            public int count(int gasket, int bound) throws IndexOutOfBoundsException, IllegalArgumentException, IllegalStateException;
+            public int countAnew(int gasket, int bound) throws IndexOutOfBoundsException, IllegalArgumentException, IllegalStateException;
+            public int remainders(int gasket, int by) throws IndexOutOfBoundsException, IllegalArgumentException;
+            public int ford(int p, int q, int r, int s) throws IllegalArgumentException;
+            public long between(int p, int q, int r, int s, boolean isTop) throws IllegalArgumentException;
+            public int tell(int a, int b, int c, int d) throws IllegalArgumentException, IllegalStateException;
+            public int append(int move, boolean isUndo) throws IndexOutOfBoundsException, IllegalStateException;
+            public int home();
+            public int word(int what) throws IndexOutOfBoundsException;
+            public long image(int p, int q, boolean isTop) throws IllegalArgumentException;
+            public int nodes(int many) throws IllegalArgumentException;
+            public int wire(int node, int other) throws IndexOutOfBoundsException, IllegalArgumentException, IllegalStateException;
+            public int trees();
+            public int treesAnew();
+            public int side(int from, int to, int wire) throws IndexOutOfBoundsException, IllegalArgumentException, IllegalStateException;
+        }
+        """;
+
+    // Ahead of these calls the interface says what they are of.
+    private static final String[][] HEADED = {{"// ---- the net", "split", "flip", "corner", "around", "net"},
+        {"// ---- disks", "disk", "move", "lie", "pairs", "draws"},
+        {"// ---- gaskets", "gasket", "turn", "curvature", "radius", "root", "count", "countAnew", "remainders"},
+        {"// ---- fractions", "ford", "between"}, {"// ---- words", "tell", "append", "home", "word", "image"},
+        {"// ---- networks", "nodes", "wire", "trees", "treesAnew", "side"}};
+
     private static final String[] NOT_IN_THE_TEXT = {
         "->", "::", "synchronized", "finally", "assert", "Exact(", "record ", "static {", "protected", "package ",
         "Math.sqrt", "Math.pow", "Throwable", "Error", "catch", "instanceof", "System.out", "hashCode", "toString",
@@ -58,6 +104,8 @@ public final class FaceTest {
         methods();
         othersAreHidden();
         classesInside();
+        block();
+        headings();
         text();
         Check.end();
     }
@@ -147,8 +195,54 @@ public final class FaceTest {
         }
     }
 
+    private static String textOfTheClass() throws IOException {
+        return Files.readString(Path.of("src/main/java/Koebehall.java"), StandardCharsets.ISO_8859_1);
+    }
+
+    // "The public face": the names of the arguments, too, and the order, are those of the block
+    private static void block() throws IOException {
+        String text = textOfTheClass().replaceAll("\\s+", " ");
+        int at = 0;
+        for (String line : BLOCK.split("\n")) {
+            String due = line.strip().replaceAll(";$", "");
+            if (due.equals("}")) {
+                continue;
+            }
+            boolean isDeclared = due.endsWith("{") || due.contains("=");
+            String body = isDeclared ? due : due + " {";
+            int from = at;
+            Check.holds("the class has, in the order of the document: " + due, () -> text.indexOf(body, from) >= 0);
+            at = Math.max(at, text.indexOf(body, from) + 1);
+        }
+        int publics = text.split("\\bpublic ", -1).length - 1;
+        Check.dueLong("as many public ones as the block has", BLOCK.split("\\bpublic ", -1).length - 1, publics);
+    }
+
+    // Terms: "Ahead of the calls `split`, `flip`, `corner`, `around`, `net` the interface says: ---- the net.", "Ahead of
+    // the calls `disk`, `move`, `lie`, `pairs`, `draws` the interface says: ---- disks.", "Ahead of the calls `gasket`,
+    // `turn`, `curvature`, `radius`, `root`, `count`, `countAnew`, `remainders` the interface says: ---- gaskets.", "Ahead
+    // of the calls `ford`, `between` the interface says: ---- fractions.", "Ahead of the calls `tell`, `append`, `home`,
+    // `word`, `image` the interface says: ---- words.", "Ahead of the calls `nodes`, `wire`, `trees`, `treesAnew`, `side`
+    // the interface says: ---- networks."
+    private static void headings() throws IOException {
+        String text = textOfTheClass();
+        int at = 0;
+        for (String[] part : HEADED) {
+            int heading = text.indexOf(part[0] + "\n", at);
+            int behind = text.indexOf("// ---- ", heading + 1);
+            int end = behind < 0 ? text.length() : behind;
+            Check.holds(part[0] + " stands behind the one before", () -> heading >= 0);
+            for (int call = 1; call < part.length; call++) {
+                int found = text.indexOf(" " + part[call] + "(", text.indexOf("\n    public ", Math.max(heading, 0)));
+                String what = part[call] + " stands below " + part[0];
+                Check.holds(what, () -> found > heading && found < end);
+            }
+            at = heading + 1;
+        }
+    }
+
     private static void text() throws IOException {
-        String text = Files.readString(Path.of("src/main/java/Koebehall.java"), StandardCharsets.ISO_8859_1);
+        String text = textOfTheClass();
         for (String sign : NOT_IN_THE_TEXT) {
             Check.holdsNot("the text has " + sign, () -> text.contains(sign));
         }
